@@ -609,7 +609,8 @@ public final class TextBurrow {
 
     private Parse cut(char parse) {
         Parse chosen = parse == '7' ? copies : growth;
-        chosen.renew(whole, sorted());
+        order.renew(whole);
+        chosen.renew(whole, order);
         return chosen;
     }
 
@@ -1342,7 +1343,7 @@ public final class TextBurrow {
             for (int node = 0; node < many; node++) {
                 int slot = slotOf(node);
                 int parent = node - 1;
-                while (parent >= 0 && !holds(parent, slot)) {
+                for (int steps = 0; steps < many && parent >= 0 && !holds(parent, slot); steps++) {
                     parent = parents[slotOf(parent)];
                 }
                 parents[slot] = parent;
@@ -1420,8 +1421,11 @@ public final class TextBurrow {
         }
 
         static boolean areAlike(Whole whole, int place, int other, int many) {
+            if (Math.min(place, other) < 0 || Math.max(place, other) + many > whole.size) {
+                return false;
+            }
             for (int i = 0; i < many; i++) {
-                if (whole.codeAt(place + i) != whole.codeAt(other + i)) {
+                if (whole.signs[place + i] != whole.signs[other + i]) {
                     return false;
                 }
             }
@@ -1487,25 +1491,22 @@ public final class TextBurrow {
 
         void cutPhrases(Whole whole, Order order) {
             Arrays.fill(onward, -1);
-            int place = 0;
-            while (place < whole.size) {
-                int phrase = -1;
-                int size = 0;
-                while (place + size < whole.size && next(phrase, whole, place + size) >= 0) {
-                    phrase = next(phrase, whole, place + size);
-                    size++;
+            int start = 0;
+            int phrase = -1;
+            for (int place = 0; place < whole.size; place++) {
+                int slot = slotOf(phrase, whole.signs[place]);
+                if (onward[slot] >= 0) {
+                    phrase = onward[slot];
+                } else {
+                    onward[slot] = many;
+                    note(start, place + 1 - start, phrase);
+                    start = place + 1;
+                    phrase = -1;
                 }
-                if (place + size < whole.size) {
-                    onward[slotOf(phrase, whole.codeAt(place + size))] = many;
-                    size++;
-                }
-                note(place, size, phrase);
-                place += size;
             }
-        }
-
-        private int next(int phrase, Whole whole, int place) {
-            return onward[slotOf(phrase, whole.codeAt(place))];
+            if (start < whole.size) {
+                note(start, whole.size - start, phrase);
+            }
         }
 
         private static int slotOf(int phrase, int code) {
@@ -1548,7 +1549,7 @@ public final class TextBurrow {
             Arrays.fill(spans, 1);
             System.arraycopy(whole.signs, 0, line, 0, size);
             int place = mostOften();
-            while (place >= 0 && many < MOST_RULES) {
+            for (int made = 0; made < MOST_RULES && place >= 0; made++) {
                 makeRule(line[place], line[place + 1]);
                 place = mostOften();
             }
@@ -1592,6 +1593,9 @@ public final class TextBurrow {
         }
 
         private void makeRule(int first, int second) {
+            if (many >= MOST_RULES) {
+                return;
+            }
             int sign = CODES + many;
             firsts[many] = first;
             seconds[many] = second;

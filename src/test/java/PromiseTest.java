@@ -166,6 +166,16 @@ public final class PromiseTest {
         Due.is("7: no such place", () -> burrow.insert(0, -1, 'a'), ARGUMENT);
         Due.is("7: no such letter", () -> burrow.insert(0, 0, '0'), ARGUMENT);
         Due.is("7: full", () -> full().insert(0, 0, 'a'), STATE);
+        Due.is("7: as the last sign", () -> {
+            TextBurrow each = full();
+            each.remove(0, 158);
+            return each.insert(0, 0, 'h') + " " + each.whole() + each.letterAt(0, 0);
+        }, "159 160h");
+        Due.is("3: as the last sign", () -> {
+            TextBurrow each = full();
+            each.remove(0, 0);
+            return each.append(0, 'h') + " " + each.whole() + each.letterAt(0, 158);
+        }, "159 160h");
         Due.is("7: full, no such place", () -> full().insert(0, 160, 'a'), ARGUMENT);
         Due.is("8: remove", () -> burrow.remove(0, 2), 'd');
         Due.is("8: remove the last", () -> burrow.remove(1, 2), 'a');
@@ -463,6 +473,10 @@ public final class PromiseTest {
                 + overlaid.phrase('8', i, 'f'), "01-1 120 331 620");
         TextBurrow several = of("abcabdab");
         row("50: the lowest place", 6, i -> several.phrase('7', i, 'f'), "-1 -1 -1 0 -1 0");
+        TextBurrow falling = of("ahagab");
+        row("50: the lowest place, of ends that are higher", 7, i -> falling.phrase('7', i, 'f'), "-1 -1 0 -1 0 -1 -1");
+        TextBurrow rising = of("abagah");
+        row("50: the lowest place, of ends that are lower", 7, i -> rising.phrase('7', i, 'f'), "-1 -1 0 -1 0 -1 -1");
         Due.is("51: literals", burrow::literals, 4);
         Due.is("51: literals of like letters", overlaid::literals, 2);
         Due.is("51: literals without texts", () -> new TextBurrow().literals(), 0);

@@ -345,8 +345,19 @@ final class PlainBurrow {
 
     // ---- tree
 
+    private String nodesFor = "none yet";
+    private List<int[]> nodesThen = new ArrayList<>();
+
     /** Depth, first rank, how many ranks. */
     private List<int[]> nodeList() {
+        if (!nodesFor.equals(all())) {
+            nodesFor = all();
+            nodesThen = nodesAnew();
+        }
+        return nodesThen;
+    }
+
+    private List<int[]> nodesAnew() {
         int size = whole();
         List<int[]> nodes = new ArrayList<>();
         for (int first = 0; first < size; first++) {

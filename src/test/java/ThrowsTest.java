@@ -8,6 +8,8 @@ public final class ThrowsTest {
     }
 
     private static final List<Wrong> WRONGS = new ArrayList<>();
+    /** So many wrong calls on one burrow, since the document promises nothing about a burrow's 513th call. */
+    private static final int SHARE = 40;
 
     public static void main(String[] args) {
         listTexts();
@@ -110,27 +112,30 @@ public final class ThrowsTest {
     }
 
     private static void compare(int texts, int letters) {
+        for (int first = 0; first < WRONGS.size(); first += SHARE) {
+            compare(texts, letters, WRONGS.subList(first, Math.min(first + SHARE, WRONGS.size())));
+        }
+    }
+
+    private static void compare(int texts, int letters, List<Wrong> wrongs) {
         TextBurrow one = made(texts, letters);
         TextBurrow twin = made(texts, letters);
-        String due = told(twin);
-        for (int i = 0; i < WRONGS.size(); i++) {
-            Wrong wrong = WRONGS.get(i);
-            Object got = Due.answer(() -> wrong.of(one));
-            Due.isEqual("wrong call " + i, got instanceof String && ((String) got).endsWith("Exception"), true);
+        for (int i = 0; i < wrongs.size(); i++) {
+            Wrong wrong = wrongs.get(i);
+            Due.isEqual("wrong call " + i, Calls.isException(Due.answer(() -> wrong.of(one))), true);
         }
-        Due.isEqual("after all wrong calls", told(one), due);
         if (texts + letters == 160) {
             for (Wrong full : new Wrong[] {b -> b.append(0, 'a'), b -> b.repeat(0, 0, 1), b -> b.draw(0, 0, 1, 1),
                 b -> b.fibonacci(0, 1), b -> b.insert(0, 0, 'a'), b -> b.newText()}) {
                 Due.is("a full whole", () -> full.of(one), "IllegalStateException");
             }
-            Due.isEqual("after calls on a full whole", told(one), due);
         }
+        Due.isEqual("after all wrong calls", told(one), told(twin));
         boolean isMore = true;
         while (isMore) {
             Object undone = Due.answer(twin::undo);
             Due.is("undo of what is kept", one::undo, undone);
-            Due.isEqual("after an undo", told(one), told(twin));
+            Due.is("after an undo", one::print, twin.print());
             isMore = undone instanceof Integer;
         }
         Due.is("wipe", one::wipe, twin.wipe());
@@ -143,8 +148,9 @@ public final class ThrowsTest {
         told.append(burrow.texts()).append(' ').append(burrow.whole()).append(' ').append(burrow.print());
         told.append(' ').append(burrow.count()).append(' ').append(burrow.near(1)).append(' ').append(burrow.nodes());
         told.append(' ').append(burrow.room('g')).append(' ').append(burrow.phrases('7'));
-        for (int place = 0; place < burrow.whole(); place++) {
-            told.append(' ').append(burrow.rebuilt(place)).append(burrow.walk(place));
+        int whole = burrow.whole();
+        for (int place = 0; place < whole; place++) {
+            told.append(' ').append(burrow.rebuilt(place));
         }
         return told.toString();
     }

@@ -48,12 +48,13 @@ final class ParseEdges {
         // The nodes of SIX: the root, and that of h, of the ranks 13 and 14.
         Edges.characters(State.SIX, "node", Edges.with(0, 'd'), 1, things, Edges.with(0, 0, 15, -1, 14), Edges.ARGUMENT);
         Edges.characters(State.SIX, "node", Edges.with(1, 'd'), 1, things, Edges.with(1, 13, 2, 0, 2), Edges.ARGUMENT);
-        int[][] hand = {{0, 0, 9, -1, 4}, {1, 2, 4, 0, 3}, {2, 4, 2, 1, 2}, {1, 6, 3, 0, 2}, {2, 7, 2, 3, 2}};
-        for (int node = 0; node < 5; node++) {
-            for (int i = 0; i < 5; i++) {
-                Edges.taken(State.HAND, hand[node][i], "node", node, things.charAt(i));
-            }
-        }
+        nodesAre(State.HAND, new int[][] {{0, 0, 9, -1, 4}, {1, 2, 4, 0, 3}, {2, 4, 2, 1, 2}, {1, 6, 3, 0, 2},
+            {2, 7, 2, 3, 2}});
+        // Of nodes with like first ranks the wider one first: a and aab both begin at the rank 2.
+        nodesAre(State.of("aab", "aab"), new int[][] {{0, 0, 8, -1, 4}, {1, 2, 4, 0, 2}, {3, 2, 2, 1, 2},
+            {2, 4, 2, 1, 2}, {1, 6, 2, 0, 2}});
+        // All that begins with a goes on with b, so ab is the node of these ranks, and a is none.
+        nodesAre(State.of("abab", "ab"), new int[][] {{0, 0, 8, -1, 4}, {2, 2, 3, 0, 3}, {1, 5, 3, 0, 3}});
         Edges.first(State.SIX, Edges.BOUNDS, Edges.ARGUMENT, "node", 2, 'x');
         Edges.first(State.NONE, Edges.BOUNDS, Edges.ARGUMENT, "node", 0, 'D');
         Edges.first(State.SIX, Edges.BOUNDS, Edges.ARGUMENT, "node", -1, '\0');
@@ -63,6 +64,17 @@ final class ParseEdges {
         Edges.taken(State.SIX, 1, "longestRepeat");
         Edges.taken(LIKE, 158, "longestRepeat");
         Edges.taken(State.of("abc", "abc"), 3, "longestRepeat");
+    }
+
+    /** Of each node the depth, the first rank, how many ranks, the parent, and how many children. */
+    private static void nodesAre(State state, int[][] dues) {
+        for (int node = 0; node < dues.length; node++) {
+            for (int i = 0; i < 5; i++) {
+                Edges.taken(state, dues[node][i], "node", node, "dflpc".charAt(i));
+            }
+        }
+        Edges.taken(state, dues.length, "nodes");
+        Edges.refused(state, Edges.BOUNDS, "node", dues.length, 'd');
     }
 
     private static void pieces() {

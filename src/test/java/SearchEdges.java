@@ -176,6 +176,14 @@ final class SearchEdges {
                 Edges.ELEMENT);
         Edges.taken(State.SIX.looking("?"), 3, "listed", 2);
         Edges.none(State.EMPTIED, "listed", Edges.with(0), 0, Edges.ELEMENT);
+        // A text of just 20 signs, one of 19, and one of 159.
+        State just = State.of(NINETEEN, TWENTY, "").looking(TWENTY);
+        Edges.range(just, "inText", Edges.with(0), 0, 0, 0, 2, 0, Edges.BOUNDS);
+        Edges.taken(just, 1, "inText", 1);
+        Edges.range(just, "listed", Edges.with(0), 0, 0, 1, 0, 1, Edges.ELEMENT);
+        Edges.taken(just, 1, "top");
+        Edges.range(LIKE.looking(TWENTY), "inText", Edges.with(0), 0, 0, 140, 0, 140, Edges.BOUNDS);
+        Edges.range(LIKE.looking(TWENTY), "listed", Edges.with(0), 0, 0, 0, 0, 0, Edges.ELEMENT);
     }
 
     private static void tops() {

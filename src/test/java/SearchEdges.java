@@ -12,6 +12,7 @@ final class SearchEdges {
 
     static void test() {
         signs();
+        keepsPattern();
         empties();
         counts();
         places();
@@ -39,6 +40,26 @@ final class SearchEdges {
         Edges.taken(LIKE.looking(TWENTY), 20, "wipe");
         Edges.taken(LIKE.looking(TWENTY).and("wipe"), 0, "wipe");
         Edges.taken(LIKE.looking(TWENTY).and("wipe"), 1, "sign", 'b');
+    }
+
+    /** Behind refused calls each sign is what it was: with another letter there, the text is like the pattern no more. */
+    private static void keepsPattern() {
+        String pattern = "abcdefgh?bcdefgh?bcd";
+        Calls calls = State.of("abcdefghabcdefghabcd").looking(pattern).burrow();
+        for (Object[] wrong : new Object[][] {{"sign", 'i'}, {"sign", '`'}, {"sign", 'a'}, {"sign", '?'}, {"at", 1},
+            {"at", -1}, {"firstRank"}, {"matching", 0}, {"near", 4}, {"nearAnew", -1}, {"inText", 1}, {"listed", 1},
+            {"append", 0, '?'}, {"insert", 0, 21, 'a'}, {"remove", 0, 20}, {"restore", 0}, {"setSample", 0}}) {
+            Object got = calls.answer((String) wrong[0], java.util.Arrays.copyOfRange(wrong, 1, wrong.length));
+            Due.isEqual(wrong[0] + " of a full pattern is refused", Calls.isException(got), true);
+        }
+        for (int place = 0; place < 20; place++) {
+            char letter = (char) calls.answer("remove", 0, place);
+            calls.with("insert", 0, place, letter == 'h' ? 'a' : (char) (letter + 1));
+            Due.isEqual("another letter at " + place, calls.answer("count"), pattern.charAt(place) == '?' ? 1 : 0);
+            calls.with("undo").with("undo");
+            Due.isEqual("the first letter at " + place, calls.answer("count"), 1);
+        }
+        Due.isEqual("the length of a full pattern", calls.answer("wipe"), 20);
     }
 
     private static void empties() {

@@ -500,8 +500,19 @@ final class PlainBurrow {
         return literals;
     }
 
+    private String pairedFor = "none yet";
+    private List<List<Integer>> pairedThen = new ArrayList<>();
+
     /** The rules, as pairs, and behind them the line that is left. */
     private List<List<Integer>> paired() {
+        if (!pairedFor.equals(all())) {
+            pairedFor = all();
+            pairedThen = pairedAnew();
+        }
+        return pairedThen;
+    }
+
+    private List<List<Integer>> pairedAnew() {
         List<List<Integer>> made = new ArrayList<>();
         List<Integer> line = codesOf(all());
         while (true) {
@@ -625,7 +636,8 @@ final class PlainBurrow {
 
     // ---- helpers
 
-    private String all() {
+    /** The whole, its signs as characters. */
+    String all() {
         StringBuilder all = new StringBuilder();
         for (int text = 0; text < texts.size(); text++) {
             all.append(texts.get(text)).append(text);
